@@ -16,6 +16,18 @@ final class Trace {
         }
     }
 
+    /** Follows steps 0 and 1 of the instruction at 0400, which go on to the step next. */
+    static Trace fetched(String name, Machine m, int instruction, int next) {
+        return fetchedAt(name, m, 0400, instruction, next);
+    }
+
+    static Trace fetchedAt(String name, Machine m, int address, int instruction, int next) {
+        m.deposit(address, instruction);
+        m.start(address);
+        return new Trace(name, m).to(1, Machine.PC, address + 1 & 07777, Machine.MA, address)
+            .to(next, Machine.MB, instruction, Machine.IR, instruction);
+    }
+
     /** One microstep goes to the step next; the changes are pairs of which and value, as look has them. */
     Trace to(int next, int... changes) {
         int from = want[Machine.STEP];
