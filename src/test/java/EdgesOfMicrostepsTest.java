@@ -359,6 +359,8 @@ public final class EdgesOfMicrostepsTest {
         operated(07012, 21, 014, 0).to(22).to(23).to(24).to(25, AC, 06);
         operated(07004, 21, 014, 0).to(22).to(23).to(24).to(0, AC, 030);
         operated(07006, 21, 014, 0).to(22).to(23).to(24).to(25, AC, 030);
+        operated(07011, 21, 013, 0).to(22).to(23).to(24, AC, 014).to(0, AC, 06);
+        operated(07005, 21, 013, 0).to(22).to(23).to(24, AC, 014).to(0, AC, 030);
     }
 
     private static void theSameOnceMore() {
@@ -435,6 +437,9 @@ public final class EdgesOfMicrostepsTest {
     }
 
     private static void haltIsDoneWhole() {
+        Machine m = Machine.with(05252, 1, 0);
+        m.switches(07777);
+        Trace.fetched("7402 leaves SWITCH alone", m, 07402, 20).to(26).to(27).to(28).to(0, CONDITIONS, HALTED).stays(2);
         operated(07402, 26).to(27).to(28).to(0, CONDITIONS, HALTED).stays(2);
         operated(07404, 26).to(27).to(28).to(0).to(1, PC, 0402, MA, 0401);
         operated(07412, 26).to(27, PC, 0402).to(28).to(0, CONDITIONS, HALTED).stays(2);
