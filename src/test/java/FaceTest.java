@@ -56,14 +56,22 @@ public final class FaceTest {
             }
         }
         Check.due("the face is " + visible + ", which", visible.equals(FACE), true);
-        for (Method m : MicroEight.class.getDeclaredMethods()) {
-            boolean hidden = Modifier.isPrivate(m.getModifiers());
-            Check.due("a private method with the public name " + m.getName(), hidden && publicNames.contains(m.getName()), false);
+        privateMethods(MicroEight.class, publicNames);
+        for (Class<?> inside : MicroEight.class.getDeclaredClasses()) {
+            privateMethods(inside, publicNames);
         }
         Check.due("public", Modifier.isPublic(MicroEight.class.getModifiers()), true);
         Check.due("final", Modifier.isFinal(MicroEight.class.getModifiers()), true);
         Check.due("extends nothing", MicroEight.class.getSuperclass() == Object.class, true);
         Check.due("implements nothing", MicroEight.class.getInterfaces().length, 0);
+    }
+
+    private static void privateMethods(Class<?> c, Set<String> publicNames) {
+        for (Method m : c.getDeclaredMethods()) {
+            boolean hidden = Modifier.isPrivate(m.getModifiers());
+            Check.due("a private method with the public name " + m.getName(), hidden && publicNames.contains(m.getName()), false);
+            Check.due(m.getName() + " takes at most seven parameters", m.getParameterCount() <= 7, true);
+        }
     }
 
     private static void classesInside() {
